@@ -96,7 +96,7 @@ public final class PuppetPitches {
         if (!now.isBooth(booth) || pitch != NONE && !isPitch(pitch)) {
             return NO_SUCH;
         }
-        if (pitch != NONE && now.isTakenByOther(pitch, booth)) {
+        if (now.isTakenByOther(pitch, booth)) {
             return NOT_POSSIBLE;
         }
         history.record(now);

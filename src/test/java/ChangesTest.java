@@ -9,6 +9,7 @@ public final class ChangesTest {
         roofs();
         coming();
         going();
+        goingOfEach();
         heights();
         standing();
         shuffling();
@@ -111,6 +112,36 @@ public final class ChangesTest {
         DUE.is("5: it is not in the row", x.lot(4), NONE);
     }
 
+    /** Eight booths with choices behind them: each one goes in turn, and is brought back. */
+    private static void goingOfEach() {
+        PuppetPitches x = Due.planned("1,2,3,4,5,6,7,8");
+        x.set(PuppetPitches.GAP, 4);
+        for (int day = 0; day < 20; day++) {
+            x.play();
+        }
+        int[][] before = new int[8][8];
+        for (int booth = 0; booth < 8; booth++) {
+            for (int what = 0; what < 8; what++) {
+                before[booth][what] = x.booth(booth, what);
+            }
+        }
+        for (int gone = 0; gone < 8; gone++) {
+            x.go(gone);
+            for (int booth = 0; booth < 7; booth++) {
+                int former = booth < gone ? booth : booth + 1;
+                for (int what : new int[] {0, 1, 5, 6, 7}) {
+                    DUE.is("5: of the former " + former + ", " + what, x.booth(booth, what), before[former][what]);
+                }
+            }
+            x.come(9);
+            for (int what : new int[] {5, 6, 7}) {
+                DUE.is("4: nothing so far, " + what, x.booth(7, what), 0);
+            }
+            x.undo();
+            x.undo();
+        }
+    }
+
     private static void heights() {
         PuppetPitches x = new PuppetPitches();
         DUE.is("6: no booth", x.height(0, 0), NO_SUCH);
@@ -179,6 +210,27 @@ public final class ChangesTest {
         DUE.is("9: first so far", x.booth(0, 6), 1);
         DUE.is("9: first so far", x.booth(1, 6), 1);
         DUE.is("9: first so far", x.booth(2, 6), 0);
+        x.shuffle(377401575);
+        x.play();
+        // 662824084 / 65536 = 10113, by 3: 0; then 1147902781 / 65536 = 17515, by 2: 1
+        DUE.is("9: place 2 with 0, place 1 with 1", x.lot(0), 2);
+        DUE.is("9: place 2 with 0, place 1 with 1", x.lot(1), 1);
+        DUE.is("9: place 2 with 0, place 1 with 1", x.lot(2), 0);
+        x.go(2);
+        x.go(1);
+        x.shuffle(2147483647);
+        x.set(PuppetPitches.RAIN, 30);
+        int rainy = x.count(13);
+        x.play();
+        // 1043980748 / 65536 = 15929, by 100: 29
+        DUE.is("9: the greatest x", x.count(6), 1043980748);
+        DUE.is("9: rain", x.count(13), rainy + 1);
+        x.set(PuppetPitches.RAIN, 1);
+        x.shuffle(1214752387);
+        x.play();
+        // 30000 * 65536, so 30000, by 100: 0
+        DUE.is("9: a number that just reaches 30000", x.count(6), 1966080000);
+        DUE.is("9: rain", x.count(13), rainy + 2);
     }
 
     private static void choices() {
@@ -198,6 +250,22 @@ public final class ChangesTest {
         x.play();
         DUE.is("9: no gap", x.booth(x.lot(1), 1), 1);
 
+        x.height(0, 1);
+        x.height(1, 1);
+        x.set(PuppetPitches.GAP, 5);
+        x.play();
+        DUE.is("9: the gap to the least high", x.booth(x.lot(1), 1), 6);
+        x.set(PuppetPitches.LEFT, 0);
+        x.play();
+        DUE.is("9: people as they come now, the first", x.booth(x.lot(0), 1), 0);
+        x.go(1);
+        x.stand(0, 3);
+        x.height(0, 5);
+        x.come(1);
+        x.shuffle(1);
+        x.play();
+        DUE.is("9: booth 1 chooses first, not hidden by those of yesterday", x.booth(1, 1), 0);
+
         PuppetPitches y = Due.planned("9,9,9");
         y.set(PuppetPitches.GAP, 5);
         y.play();
@@ -213,6 +281,10 @@ public final class ChangesTest {
         DUE.is("9: rain without a roof", x.play(), 0);
         DUE.is("9: it stands", x.booth(0, 1), 0);
         DUE.is("9: rainy days", x.count(13), 1);
+        x.set(PuppetPitches.GIVE, 100);
+        DUE.is("9: no crowd at all", x.play(), 0);
+        x.undo();
+        x.undo();
         x.roof(0, true);
         DUE.is("9: rain, but a roof: (80 + 40) / 4", x.play(), 30);
         DUE.is("9: rainy days", x.count(13), 2);

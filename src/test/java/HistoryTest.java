@@ -39,8 +39,11 @@ public final class HistoryTest {
     private static void everyChangeIsUndone() {
         for (int change = 0; change < 10; change++) {
             PuppetPitches x = Due.planned("5@2,7@5,3");
-            x.set(PuppetPitches.RAIN, 0);
-            x.play();
+            x.set(PuppetPitches.RAIN, 50);
+            x.set(PuppetPitches.GAP, 5);
+            for (int day = 0; day < 9; day++) {
+                x.play();
+            }
             x.save(1);
             x.set(PuppetPitches.RIGHT, 333);
             x.roof(7, true);

@@ -56,6 +56,15 @@ public final class QueriesTest {
         DUE.is("11: days nowhere", nowhere, 3);
         DUE.is("11: firsts", first, 1);
         DUE.is("11: firsts", x.booth(x.lot(0), 6), 1);
+        PuppetPitches y = example();
+        y.set(PuppetPitches.LEFT, 100);
+        DUE.is("11: as people come now, from the left", y.booth(1, 3), 40);
+        y.set(PuppetPitches.RIGHT, 200);
+        DUE.is("11: as people come now, from the right", y.booth(3, 4), 80);
+        y.set(PuppetPitches.STOP, 50);
+        DUE.is("11: as people stop now", y.booth(1, 2), 50);
+        y.height(1, 9);
+        DUE.is("11: as heights are now", y.booth(0, 3), 0);
     }
 
     private static void pitches() {
@@ -185,8 +194,9 @@ public final class QueriesTest {
         DUE.is("18: too many days", x.ifPlayed(101, 0), BAD_VALUE);
         DUE.is("18: nothing asked", x.ifPlayed(1, -1), BAD_VALUE);
         DUE.is("18: nothing asked", x.ifPlayed(1, 2), BAD_VALUE);
-        x.set(PuppetPitches.RAIN, 40);
+        x.set(PuppetPitches.RAIN, 100);
         x.play();
+        x.set(PuppetPitches.RAIN, 40);
         x.play();
         int[] coins = new int[101];
         int[] rain = new int[101];
@@ -211,6 +221,7 @@ public final class QueriesTest {
         DUE.is("19: seen from both sides above 5", x.bestHeight(0), 6);
         DUE.is("19: seen from both sides above 5", x.bestHeight(1), 6);
         DUE.is("19: nothing is changed", x.booth(0, 0), 5);
+        DUE.is("19: 2 is enough", Due.planned("1@0,1@1").bestHeight(1), 2);
         DUE.is("19: alone", Due.planned("7@3").bestHeight(0), 1);
         DUE.is("19: it can't be higher than 9", Due.planned("9@0,4@1,9@2").bestHeight(1), 1);
         DUE.is("19: 9 is needed", Due.planned("8@0,4@1").bestHeight(1), 9);
