@@ -17,7 +17,6 @@ public final class ChangesTest {
         choices();
         rain();
         hats();
-        mostDays();
         reading();
         DUE.end();
     }
@@ -316,18 +315,6 @@ public final class ChangesTest {
         x.play();
         DUE.is("9: hats add up", x.booth(1, 5), 4);
         DUE.is("9: all", x.count(14), 6);
-    }
-
-    private static void mostDays() {
-        PuppetPitches x = new PuppetPitches();
-        for (int day = 1; day <= 9999; day++) {
-            x.play();
-        }
-        DUE.is("9: days", x.count(12), 9999);
-        int drawn = x.count(6);
-        DUE.is("9: one more", x.play(), TOO_MANY);
-        DUE.is("9: nothing is changed", x.count(12), 9999);
-        DUE.is("9: nothing is changed", x.count(6), drawn);
     }
 
     private static void reading() {

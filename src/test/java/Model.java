@@ -1,5 +1,6 @@
 import java.util.ArrayList;
 import java.util.List;
+import java.util.regex.Pattern;
 
 /**
  * The document told a second time, as plainly as the library allows and with
@@ -8,6 +9,9 @@ import java.util.List;
 final class Model {
     private static final int NO_SUCH = -1, BAD_VALUE = -2, BAD_TEXT = -3, TOO_MANY = -4, NOT_POSSIBLE = -5, NONE = -6;
     private static final int[] GREATEST = {999, 999, 100, 100, 5, 100};
+    private static final String PART = "[1-9](@(1[01]|[0-9]))?";
+    private static final Pattern PLAN = Pattern.compile("(" + PART + ",){0,7}" + PART);
+    private static final Pattern BEGUN_PLAN = Pattern.compile("(" + PART + ",){0,7}([1-9](@(1[01]|[0-9])?)?)?");
 
     private static final class Booth {
         int height;
@@ -412,14 +416,16 @@ final class Model {
     }
 
     int fault() {
-        String part = "[1-9](@(1[01]|[0-9]))?";
-        String begun = "([1-9](@(1[01]|[0-9])?)?)?";
-        for (int i = 0; i < pad.length(); i++) {
-            if (!pad.substring(0, i + 1).matches("(" + part + ",){0,7}" + begun)) {
+        return faultOf(pad);
+    }
+
+    static int faultOf(String text) {
+        for (int i = 0; i < text.length(); i++) {
+            if (!BEGUN_PLAN.matcher(text.substring(0, i + 1)).matches()) {
                 return i;
             }
         }
-        return pad.matches("(" + part + ",){0,7}" + part) ? NONE : pad.length();
+        return PLAN.matcher(text).matches() ? NONE : text.length();
     }
 
     int undo() {

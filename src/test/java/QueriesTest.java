@@ -198,16 +198,16 @@ public final class QueriesTest {
         x.play();
         x.set(PuppetPitches.RAIN, 40);
         x.play();
-        int[] coins = new int[101];
-        int[] rain = new int[101];
-        for (int days = 1; days <= 100; days++) {
+        int[] coins = new int[81];
+        int[] rain = new int[81];
+        for (int days = 1; days <= 80; days++) {
             coins[days] = x.ifPlayed(days, 0);
             rain[days] = x.ifPlayed(days, 1);
         }
         DUE.is("18: nothing is changed", x.count(12), 2);
         int takings = x.count(14);
         int rainy = x.count(13);
-        for (int days = 1; days <= 100; days++) {
+        for (int days = 1; days <= 80; days++) {
             x.play();
             DUE.is("18: coins in " + days, coins[days], x.count(14) - takings);
             DUE.is("18: rain in " + days, rain[days], x.count(13) - rainy);

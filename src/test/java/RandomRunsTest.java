@@ -3,7 +3,9 @@ import java.util.Random;
 /** All promises: runs of random calls, each answered as the model answers it. */
 public final class RandomRunsTest {
     private static final int RUNS = 1500;
-    private static final int CALLS = 512;
+    private static final int MOST_CALLS = 512;
+    /** What one step of a run makes at most: three calls of put and one of read. */
+    private static final int MOST_CALLS_A_STEP = 4;
     private static final int[] EXTREMES = {Integer.MIN_VALUE, -7, -6, -1, 12, 13, 101, 1000, Integer.MAX_VALUE};
     private static final int[] GREATEST = {999, 999, 100, 100, 5, 100};
     private static final String[] PLANS = {"5@0,6@2", "1@11,9@4,3", "7@10,7@1,7@5,7", "5@1,5@1", "9", "2@3,4@5,6@7,8@9,1@0",
@@ -13,6 +15,8 @@ public final class RandomRunsTest {
     private Random random;
     private PuppetPitches x;
     private Model model;
+    /** Calls on x so far in this run. */
+    private int calls;
 
     public static void main(String[] args) {
         RandomRunsTest test = new RandomRunsTest();
@@ -26,9 +30,11 @@ public final class RandomRunsTest {
         random = new Random(seed);
         x = new PuppetPitches();
         model = new Model();
-        for (int call = 0; call < CALLS; call++) {
+        calls = 0;
+        while (calls + MOST_CALLS_A_STEP <= MOST_CALLS) {
             int kind = random.nextInt(30);
-            String name = "run " + seed + ", call " + call + ", kind " + kind;
+            String name = "run " + seed + ", call " + calls + ", kind " + kind;
+            calls++;
             if (kind < 14) {
                 change(name, kind);
             } else {
@@ -91,6 +97,7 @@ public final class RandomRunsTest {
             for (int i = 0; i < plan.length(); i += 8) {
                 long letters = Due.packed(plan.substring(i, Math.min(i + 8, plan.length())));
                 due.is(name, x.put(letters), model.put(letters));
+                calls++;
             }
         }
         due.is(name, x.read(), model.read());
